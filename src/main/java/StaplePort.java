@@ -182,9 +182,10 @@ public final class StaplePort {
         }
         found.customedOn = today;
         found.duty = dutyOn(today, found);
-        if (found.duty > 0) {
+        Statute law = inForce(today);
+        if (law != null && found.duty > 0) {
             found.bond = BOND_OPEN;
-            found.due = today + termToday();
+            found.due = today + law.term;
         }
         return found.duty;
     }
@@ -431,11 +432,6 @@ public final class StaplePort {
             return 0;
         }
         return lot.sacks * law.dutyOfSack(lot.sort, men[lot.merchant], lot.shire);
-    }
-
-    private int termToday() {
-        Statute law = inForce(today);
-        return law == null ? 0 : law.term;
     }
 
     private int licensedSacks(int merchant, int sort) {
@@ -953,7 +949,8 @@ public final class StaplePort {
             for (int given = 0; given < over && given < MOST_MERCHANTS; given++) {
                 int m = greatest(rests);
                 parts[m]++;
-                rests[m] = NONE;
+                // Below every rest, so that the next coin goes to another.
+                rests[m] = -1;
             }
         }
 

@@ -390,6 +390,7 @@ public final class FleetTest {
         parted(c, 100, new int[] {1, 1, 1}, new int[] {34, 33, 33});
         parted(c, 101, new int[] {1, 1, 1}, new int[] {34, 34, 33});
         parted(c, 1, new int[] {5, 5, 5}, new int[] {1, 0, 0});
+        parted(c, 77, new int[] {0, 1}, new int[] {0, 77});
         parted(c, 2, new int[] {0, 5, 5, 5, 0}, new int[] {0, 1, 1, 0, 0});
         // The greatest remainder first, wherever it is: of 10 by 7, 7/10 2/10 1/10.
         parted(c, 11, new int[] {7, 2, 1}, new int[] {8, 2, 1});

@@ -95,6 +95,12 @@ public final class StatuteTest {
             repeated("forbid sort 1 man 1 shire 1;", 16), repeated("duty shire 1 man 1 sort 2 is 100;", 16),
             repeated("lost ends;", 16) + "   ",
         };
+        StaplePort full = new StaplePort();
+        c.due("adopt of 600 blanks", Checks.adoptText(full, " ".repeat(600)), 0);
+        c.due("adopt up to the 600th byte", Checks.adoptText(full, " ".repeat(589) + "lost stands"), -1);
+        c.due("fault()", full.fault(), 600);
+        c.due("adopt up to the 600th byte", Checks.adoptText(full, " ".repeat(588) + "lost stands;"), 1);
+        c.due("fault()", full.fault(), -1);
         StaplePort x = null;
         for (int i = 0; i < texts.length; i++) {
             if (i % 10 == 0) {
@@ -184,6 +190,10 @@ public final class StatuteTest {
         fault(c, "x", 0);
         fault(c, "  dut", 2);
         fault(c, "dutyx is 4;", 0);
+        fault(c, "dutyz is 4;", 0);
+        fault(c, "dutya is 4;", 0);
+        fault(c, "aduty is 4;", 0);
+        fault(c, "term 5; du", 8);
         fault(c, "Duty is 4;", 0);
         fault(c, "dutY is 4;", 0);
         fault(c, "duty", 4);
