@@ -1,6 +1,9 @@
+import java.util.function.IntToLongFunction;
+
 /** What the tests share: telling answers that are not as due, and statutes given as texts. */
 final class Checks {
     private final String test;
+    private String sentence = "";
     private int wrong;
     private int asked;
 
@@ -8,16 +11,34 @@ final class Checks {
         this.test = test;
     }
 
+    /** The document's sentence that the answers from here on are due by. */
+    void says(String words) {
+        sentence = " '" + words + "'";
+    }
+
     void due(String call, long got, long want) {
         asked++;
         if (got != want) {
             wrong++;
-            System.out.println(test + ": " + call + " answered " + got + ", due is " + want);
+            System.out.println(test + ":" + sentence + " " + call + " answered " + got + ", due is " + want);
         }
     }
 
     void due(String call, boolean got, boolean want) {
-        due(call, got ? 1 : 0, want ? 1 : 0);
+        due(call, bit(got), bit(want));
+    }
+
+    /**
+     * The first and the last value that are allowed and those next to them, then the first ones on
+     * both sides that aren't, and those farthest out. The call is made on a port of its own each time.
+     */
+    void range(String call, int least, int most, IntToLongFunction on, IntToLongFunction allowed, long refused) {
+        for (int value : new int[] {least, least + 1, most - 1, most}) {
+            due(call + " of " + value, on.applyAsLong(value), allowed.applyAsLong(value));
+        }
+        for (int value : new int[] {least - 1, most + 1, Integer.MIN_VALUE, Integer.MAX_VALUE}) {
+            due(call + " of " + value, on.applyAsLong(value), refused);
+        }
     }
 
     /** Prints how it went; ends the program with 1 if an answer was not as due. */
@@ -26,6 +47,10 @@ final class Checks {
         if (wrong != 0 || asked == 0) {
             System.exit(1);
         }
+    }
+
+    static long bit(boolean answer) {
+        return answer ? 1 : 0;
     }
 
     /** Feeds a text with blanks behind it, as many as fill the last twenty bytes. */
