@@ -361,7 +361,8 @@ public final class BondEdgeTest {
         StaplePort x = greatBond().port();
         x.undo(0);
         c.due("the least", x.over(0), -499500);
-        StaplePort y = new Script().merchants(1).bring(new int[] {0, 0, 500}).customUpTo(0).adopt("duty is 999;").port();
+        Script later = new Script().merchants(1).bring(new int[] {0, 0, 500}).customUpTo(0).adopt("duty is 999;");
+        StaplePort y = later.port();
         c.due("the most", y.over(0), 499500);
     }
 

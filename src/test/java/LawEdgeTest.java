@@ -9,6 +9,7 @@ public final class LawEdgeTest {
         promise9NotUndone(c);
         promise9Days(c);
         condsHold(c);
+        allCondsHold(c);
         theFirstDuty(c);
         zeroWithoutADuty(c);
         someForbid(c);
@@ -124,6 +125,34 @@ public final class LawEdgeTest {
                     c.due("DUTY by " + marks[mark] + " " + number + " of " + has, x.custom(lot),
                             has == number ? 1 : 0);
                 }
+            }
+        }
+    }
+
+    private static void allCondsHold(Checks c) {
+        c.says("all whose CONDS hold");
+        String[] conds = {"", "sort 1", "sort 1 sort 1", "sort 1 sort 1 sort 1", "sort 1 sort 2", "sort 2 sort 1",
+            "sort 1 sort 2 sort 1", "sort 1 sort 2 sort 2", "sort 2 sort 1 sort 1", "sort 1 sort 1 sort 2",
+            "sort 1 man 1", "man 1 sort 1", "man 1 man 1 sort 1", "man 0 sort 1 man 1", "shire 1 man 1 sort 1",
+            "shire 2 man 1 sort 1", "shire 1 man 1 sort 2", "shire 1 man 0 sort 1", "shire 1 shire 2"};
+        // The lots: merchant and shire 1 and SORT 1, the same and SORT 2, merchant 0 and SORT 1.
+        int[][] due = {{1, 1, 1}, {1, 0, 1}, {1, 0, 1}, {1, 0, 1}, {0, 0, 0}, {0, 0, 0}, {0, 0, 0}, {0, 0, 0},
+            {0, 0, 0}, {0, 0, 0}, {1, 0, 0}, {1, 0, 0}, {1, 0, 0}, {0, 0, 0}, {1, 0, 0}, {0, 0, 0}, {0, 1, 0},
+            {0, 0, 1}, {0, 0, 0}};
+        for (int i = 0; i < conds.length; i++) {
+            StaplePort x = Checks.portWithMerchants(2);
+            Checks.adoptText(x, "duty " + conds[i] + " is 1;");
+            x.bring(1, 1, 1, 1);
+            x.bring(1, 1, 2, 1);
+            x.bring(0, 1, 1, 1);
+            Checks.adoptText(x, "forbid " + conds[i] + ";");
+            for (int lot = 0; lot < 3; lot++) {
+                int again = x.bring(x.lot(lot, 0), x.lot(lot, 1), x.lot(lot, 2), 1);
+                c.due("lot " + lot + " FORBIDDEN by '" + conds[i] + "'", again == -3, due[i][lot] == 1);
+            }
+            x.undo(1);
+            for (int lot = 0; lot < 3; lot++) {
+                c.due("DUTY of lot " + lot + " by '" + conds[i] + "'", x.custom(lot), due[i][lot]);
             }
         }
     }

@@ -96,9 +96,9 @@ public final class SumEdgeTest {
     private static void promise27TheMost(Checks c) {
         c.says("Of a SHIRE and SORT: sacks grown (0), brought (1), CUSTOMED (2)");
         Script s = new Script().merchants(1).times(150, i -> x -> x.bring(0, 7, 3, 500)).customUpTo(149);
-        StaplePort x = s.times(200, i -> y -> y.grow(7, 2, 1000)).port();
+        StaplePort x = s.times(180, i -> y -> y.grow(7, 2, 1000)).port();
         sums(c, x, 7, 3, 0, 75000, 75000, 0, 0, -75000, 0);
-        sums(c, x, 7, 2, 200000, 0, 0, 0, 0, 200000, 0);
+        sums(c, x, 7, 2, 180000, 0, 0, 0, 0, 180000, 0);
     }
 
     private static void promise28NoneForOthers(Checks c) {

@@ -29,7 +29,7 @@ public final class TextEdgeTest {
     }
 
     private static void theEmptyText(Checks c) {
-        c.says("A STATUTE is a text: {..}");
+        c.says("A STATUTE is a text");
         reads(c, "", SOUND);
         reads(c, " ", SOUND);
         reads(c, "\n", SOUND);
@@ -208,7 +208,7 @@ public final class TextEdgeTest {
     }
 
     private static void theFirstTokenWithWhichNoneGoesOn(Checks c) {
-        c.says("the first token with which no such text goes on");
+        c.says("the first token (or byte that begins none) with which no such text goes on");
         reads(c, "duty man 1 man 1 4 is 5;", 17);
         reads(c, "duty is 4 is 5;", 10);
         reads(c, "duty is 4 sort 5;", 10);
