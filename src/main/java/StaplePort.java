@@ -180,9 +180,9 @@ public final class StaplePort {
         if (found == null || found.isCustomed()) {
             return NONE;
         }
-        found.customedOn = today;
-        found.duty = dutyOn(today, found);
         Statute law = inForce(today);
+        found.customedOn = today;
+        found.duty = dutyBy(law, found);
         if (law != null && found.duty > 0) {
             found.bond = BOND_OPEN;
             found.due = today + law.term;
@@ -233,7 +233,7 @@ public final class StaplePort {
         if (found == null || !found.isCustomed()) {
             return 0;
         }
-        return dutyOn(found.customedOn, found) - found.duty;
+        return dutyBy(inForce(found.customedOn), found) - found.duty;
     }
 
     // ---- fleets and ships
@@ -426,8 +426,7 @@ public final class StaplePort {
         return number == NONE ? null : statutes.get(number);
     }
 
-    private int dutyOn(int day, Lot lot) {
-        Statute law = inForce(day);
+    private int dutyBy(Statute law, Lot lot) {
         if (law == null || lot.free) {
             return 0;
         }
